@@ -21,6 +21,12 @@ public final class DigestTest {
         alike("with a FAULT", x);
         Check.retype(x, 1, "0000;1111;2222;3333;4444;5555;6666;7777;8888");
         alike("nine PICTURES", x);
+        Check.retype(x, 0, "0000;9000;9900;9990;9999;0999");
+        alike("six PICTURES: by 12 slits not as by 11", x);
+        Check.retype(x, 0, "0000;5000");
+        alike("a STEP of 5", x);
+        Check.retype(x, 0, "0000;6000");
+        alike("a STEP of 6", x);
         x.blink(0);
         alike("no DOTS in one LOOK", x);
         check.end();

@@ -7,6 +7,7 @@ public final class DotsTest {
         reading();
         blinking();
         joining();
+        alone();
         ways();
         forms();
         rowsAndSplits();
@@ -108,6 +109,19 @@ public final class DotsTest {
         joins(looks(new int[] {}, new int[] {5, 6}), "none to two", 0, 1, 0, 0);
         joins(looks(new int[] {5, 6}, new int[] {}), "two to none", 0, 1, 0, 0);
         check.same("joined to none", looks(new int[] {5, 6}, new int[] {}).joined(0, 1), -1);
+    }
+
+    /** net() and joined() without a join() ahead of them, behind each change. */
+    private static void alone() {
+        check.same("NET alone", looks(new int[] {3}, new int[] {9}).net(), 6);
+        DrumSlits x = looks(new int[] {3, 9}, new int[] {9});
+        check.same("joined alone", x.joined(0, 1), 0);
+        x.blink(1);
+        x.dot(1, 2, 0);
+        check.same("joined behind a change", x.joined(0, 1), -1);
+        check.same("NET behind it", x.net(), -1);
+        x.dot(1, 10, 0);
+        check.same("NET behind one more", x.net(), 0);
     }
 
     private static void ways() {

@@ -38,6 +38,8 @@ public final class OrdersTest {
         x = Check.strips("0000;----;4000;-000", "");
         ordered("GAP 3 lays", x, 12 + 9 + 3 + 4, 4, 0, 1, 3, 2);
         check.same("the strip is as it was", x.place(0, 2, 0), 4);
+        check.same("orders alone", Check.strips("", "0000;1000;2000").orders(1), 2);
+        check.same("order alone", Check.strips("", "0000;3000;1000;2000").order(1, 3), 2);
     }
 
     private static void wrongOrders() {
