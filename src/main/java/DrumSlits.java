@@ -11,6 +11,8 @@ public final class DrumSlits {
     private static final int MOST_LOOK = 999, MOST_WIDTH = 99, MOST_DRAWN = 999, MOST_SLIT_WIDTH = 20;
     private static final int MOST_GAP = 9, MOST_UNLIKE = 60, MOST_NEAR = 60;
     private static final int MOST_PACE = 60, MOST_BRIGHT = 9, MOST_FORM = 3;
+    private static final int LEAST_INT = 1 << 31;
+    private static final long LEAST_LONG = 1L << 63;
 
     private final Strip firstStrip;
     private final Strip secondStrip;
@@ -382,12 +384,12 @@ public final class DrumSlits {
     public int get(int s, int form, int i) {
         Sheet sheet = sheetAt(s);
         if (sheet == null || !Sheet.isForm(form)) {
-            return Integer.MIN_VALUE;
+            return LEAST_INT;
         }
         int number = sheet.findingAt(form, i);
         if (number != 0) {
             latestFinding = number;
-            return Integer.MIN_VALUE;
+            return LEAST_INT;
         }
         return sheet.itemAt(i);
     }
@@ -507,7 +509,7 @@ public final class DrumSlits {
     }
 
     private static long asLong(int refusal) {
-        return Long.MIN_VALUE - refusal;
+        return LEAST_LONG - refusal;
     }
 
     private int finding(int number) {
@@ -1115,7 +1117,7 @@ public final class DrumSlits {
         private int leastSum;
 
         void search(Sheet sheet) {
-            leastSum = Integer.MAX_VALUE;
+            leastSum = MOST_ITEMS * ROUND_PLACES;
             for (int pace = 0; pace < ROUND_PLACES; pace++) {
                 unbend(sheet, pace);
                 weighStarts(sheet.size, pace);

@@ -110,5 +110,16 @@ public final class FaceTest {
         check.same("no method reference", text.contains("::") ? 1 : 0, 0);
         check.same("one import", text.split("\nimport |^import ", -1).length - 1, 1);
         check.same("of Arrays", text.contains("import java.util.Arrays;") ? 1 : 0, 1);
+        library(text.replaceAll("import [^;]*;", ""));
+    }
+
+    /** Rule 4: of the library's classes only functions that it lists; no constant of theirs. */
+    private static void library(String text) {
+        Set<String> listed = Set.of("Math.abs", "Math.min", "Math.max", "Math.floorDiv", "Math.floorMod",
+            "Integer.bitCount", "System.arraycopy", "Arrays.fill");
+        Matcher used = Pattern.compile("\\b(Math|Integer|Long|System|Arrays)\\.\\w+").matcher(text);
+        while (used.find()) {
+            check.same("of the library: " + used.group(), listed.contains(used.group()) ? 1 : 0, 1);
+        }
     }
 }
